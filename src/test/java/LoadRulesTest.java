@@ -103,6 +103,7 @@ final class LoadRulesTest {
         due("fewer bands than words", sample().notes(4, 1), 14);
         due("a huge number of bands", sample().notes(4, Integer.MAX_VALUE), 14);
         due("12 bands", manyPieces(12), 0);
+        due("13 bands with all words", manyPieces(13), 14);
         due("12 group blocks", manyBlocks(12), 0);
         due("13 group blocks", manyBlocks(13), 14);
         due("at the end of the notes", piecesAtTheEnd(48), 0);
@@ -110,7 +111,7 @@ final class LoadRulesTest {
     }
 
     private static SampleFile manyPieces(int n) {
-        SampleFile file = sample().sizeOf(1, 200 - 136).link(13, 14, 15, 16, 17, 18, 19, 20);
+        SampleFile file = sample();
         file.body(2, n, 0, 0).body(5, 0, 3 + 3 * n).body(7, 40, 1, 42, 48);
         file.notes(0, 2, n);
         for (int i = 0; i <= n; i++) {
@@ -170,7 +171,7 @@ final class LoadRulesTest {
 
     private static void rule17() {
         due("no styles", sample().body(8, 0), 17);
-        due("11 styles", tenStyles().body(8, 11), 17);
+        due("11 styles", tenStyles().notes(S + 20, -1, -1).body(8, 11), 17);
         due("10 styles", tenStyles(), 0);
         due("10 styles in a circle", tenStyles().notes(S, 9), 17);
         due("-1 styles", sample().body(8, -1), 17);
@@ -178,6 +179,8 @@ final class LoadRulesTest {
         due("styles at a huge place", sample().body(7, Integer.MAX_VALUE), 17);
         due("styles up to the end", sample().body(7, 54).notes(54, -1, -1, 0, -1, 0, -1), 0);
         due("styles over the end", sample().body(7, 55).notes(54, -1, -1, -1, -1, -1, -1), 17);
+        due("styles at 0", piecesAtTheEnd(48).body(7, 0).notes(0, -1, -1, 0, -1, 0, -1), 0);
+        due("a group at 0", piecesAtTheEnd(48).notes(0, 0).notes(S + 1, 0), 0);
         due("a parent -2", sample().notes(S, -2), 17);
         due("a parent behind the last", sample().notes(S, 3), 17);
         due("a parent itself", sample().notes(S, 0), 17);
@@ -205,7 +208,9 @@ final class LoadRulesTest {
         due("paragraphs at -1", sample().body(9, -1), 18);
         due("paragraphs at a huge place", sample().body(9, Integer.MAX_VALUE), 18);
         due("no paragraph", sample().notes(P, 0), 18);
-        due("13 paragraphs", sample().notes(P, 13), 18);
+        due("13 paragraphs", manyBands(9, 13), 18);
+        due("12 paragraphs", manyBands(9, 12), 0);
+        due("paragraphs at 0", piecesAtTheEnd(48).body(9, 0).notes(0, 1, 0, 10, 2, -1), 0);
         due("paragraphs up to the end", sample().body(9, 55).notes(55, 1, 0, 10, 2, -1), 0);
         due("paragraphs over the end", sample().body(9, 56).notes(56, 1, 0, 10, 2), 18);
         due("a first limit of 1", sample().notes(P + 1, 1), 18);
@@ -219,11 +224,26 @@ final class LoadRulesTest {
         due("an empty group at the end", sample().notes(P + 7, 59).notes(59, 0), 0);
     }
 
+    /** A text of 13 positions, whose paragraphs (9) or runs (10) are so many. */
+    private static SampleFile manyBands(int bodyWord, int n) {
+        SampleFile file = sample().body(2, 13, 0, 0).body(5, 0, 6).notes(0, 2, 1, 0, 13, SampleFile.NARROW, 0);
+        file.body(7, 6, 1, 8, 13).notes(6, -1, -1, 1, 0, 13, 0, -1, 1, 0, 13, -1);
+        file.body(bodyWord, 17).notes(17, n);
+        for (int i = 0; i < n; i++) {
+            file.notes(18 + i, i).notes(19 + n + i, bodyWord == 9 ? 0 : -1);
+            if (bodyWord == 9) {
+                file.notes(19 + 2 * n + i, -1);
+            }
+        }
+        return file.notes(18 + n, 13);
+    }
+
     private static void rule19() {
         due("runs at -1", sample().body(10, -1), 19);
         due("runs at a huge place", sample().body(10, Integer.MAX_VALUE), 19);
         due("no run", sample().notes(R, 0), 19);
-        due("13 runs", sample().notes(R, 13), 19);
+        due("13 runs", manyBands(10, 13), 19);
+        due("12 runs", manyBands(10, 12), 0);
         due("runs up to the end", sample().body(10, 56).notes(56, 1, 0, 10, -1), 0);
         due("runs over the end", sample().body(10, 57).notes(57, 1, 0, 10), 19);
         due("a first limit of -1", sample().notes(R + 1, -1), 19);
@@ -240,6 +260,8 @@ final class LoadRulesTest {
             .notes(2, SampleFile.modifier(1, 1, 0)), 20);
         due("a style's group", sample().notes(G + 1, SampleFile.modifier(2, 4, 0)), 20);
         due("a paragraph's group", sample().notes(G + 8, SampleFile.modifier(2, 5, 0)), 20);
+        due("the first paragraph's group", sample().notes(P + 6, FREE)
+            .notes(FREE, 1, SampleFile.modifier(2, 5, 0)), 20);
         due("a run's group", sample().notes(G + 10, SampleFile.modifier(2, 6, 0)), 20);
         due("an empty group", runGroup(), 0);
         for (int kind = 3; kind <= 6; kind++) {
@@ -293,5 +315,8 @@ final class LoadRulesTest {
         x.open();
         CHECK.due("load of a mended document", x.load(), 0);
         CHECK.due("unit of a mended document", x.unit(9), 65535);
+        sample().body(5, 3, 9).putInto(x);
+        x.open();
+        CHECK.due("load of a document that has lost its group block", x.load(), 16);
     }
 }

@@ -31,6 +31,7 @@ final class OpenRulesTest {
 
     private static void rule1() {
         due("one sector", sample().sectors(1), 1);
+        due("two sectors are enough for a table", lowTable().sectors(2), 3);
         due("another mark", sample().header(0, SampleFile.MARK + 1), 1);
         due("F is 0", sample().header(1, 0), 1);
         due("F is 4", sample().header(1, 4), 1);
@@ -41,10 +42,14 @@ final class OpenRulesTest {
 
     private static void rule2() {
         due("a table sector 0", sample().header(3, 0), 2);
+        due("a first table sector 0", sample().header(2, 0), 2);
+        due("a first table sector N", sample().header(2, 24), 2);
         due("a table sector N", sample().header(3, 24), 2);
         due("a table sector below 0", sample().header(3, -3), 2);
         due("a huge table sector", sample().header(3, (1 << 29) + 2), 2);
         due("a table sector twice", sample().header(4, 2), 2);
+        due("the first table sector twice", sample().header(3, 1), 2);
+        due("the first table sector at last again", sample().header(4, 1), 2);
         due("two sectors, three named", sample().sectors(3), 2);
         due("a table sector is -2", sample().table(2, -2), 2);
         due("a table sector is -1", sample().table(3, -1), 2);
@@ -107,6 +112,7 @@ final class OpenRulesTest {
 
     private static void rule5() {
         due("no letters", sample().nameOf(2, 0), 5);
+        due("no letters of the first", sample().nameOf(1, 0), 5);
         due("a letter 32", sample().nameOf(2, 32), 5);
         due("a letter 127", sample().nameOf(2, 0x44447F), 5);
         due("a letter 0 behind others", sample().nameOf(2, 0x444F00), 5);
@@ -170,6 +176,7 @@ final class OpenRulesTest {
 
     private static void rule7() {
         due("a red first entry", sample().formOf(1, SampleFile.form(2, false, 3, 2, 0)), 7);
+        due("a red first entry over black ones", bothBlack().formOf(1, SampleFile.form(2, false, 3, 2, 0)), 7);
         due("a red first entry in a folder", sample().formOf(4, SampleFile.form(2, false, 0, 5, 0)), 7);
         due("one side more black", sample().formOf(2, SampleFile.form(2, true, 0, 0, 0)), 7);
         due("both sides black", bothBlack(), 0);
