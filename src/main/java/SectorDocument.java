@@ -450,7 +450,7 @@ public final class SectorDocument {
             if (kindOf(0) != ROOT || !reach(childOf(0), 0, 0)) {
                 return false;
             }
-            for (int i = 1; i < reachedCount; i++) {
+            for (int i = 1; i < reachedCount && i < MOST_ENTRIES; i++) {
                 int k = order[i];
                 if (!reach(leftOf(k), owner[k], k) || !reach(rightOf(k), owner[k], k)
                         || !reach(childOf(k), k, 0)) {

@@ -2,8 +2,9 @@ import java.util.Random;
 
 /** Every promise, in any order: runs of calls made by chance, each answer compared with the oracle's. */
 final class RandomCallsTest {
-    private static final int RUNS = 1500;
+    private static final int RUNS = 6000;
     private static final int CALLS = 512;
+    private static final int MOST_AT_ONCE = 7;
     private static final int[] EDGES = {
         Integer.MIN_VALUE, Integer.MIN_VALUE + 1, -3, -2, -1, 0, 1, 2, 24, 25, 47, 48, 191, 192, 255, 400,
         1 << 29, 1 << 30, Integer.MAX_VALUE - 1, Integer.MAX_VALUE
@@ -12,9 +13,10 @@ final class RandomCallsTest {
 
     private final Random chance;
     private final String what;
-    private final SectorDocument x = new SectorDocument();
+    private final SectorDocument made = new SectorDocument();
     private int[] words = new int[192];
     private int sectors = 1;
+    private int calls = 0;
     private Oracle due = new Oracle(words, sectors);
 
     private RandomCallsTest(int seed) {
@@ -29,11 +31,16 @@ final class RandomCallsTest {
             if (seed % 10 != 0) {
                 run.putAll(new RandomFile(chanceSeed(seed)));
             }
-            for (int call = 0; call < CALLS - 49; call++) {
+            while (run.calls + MOST_AT_ONCE <= CALLS) {
                 run.call();
             }
         }
         CHECK.finish();
+    }
+
+    private SectorDocument asked() {
+        calls++;
+        return made;
     }
 
     private static long chanceSeed(int seed) {
@@ -50,7 +57,7 @@ final class RandomCallsTest {
 
     private void put(int at, int... values) {
         boolean taken = at >= 0 && at <= 47;
-        CHECK.due(what + ": put(" + at + ")", x.put(at, values[0], values[1], values[2], values[3]), taken);
+        CHECK.due(what + ": put(" + at + ")", asked().put(at, values[0], values[1], values[2], values[3]), taken);
         if (taken) {
             System.arraycopy(values, 0, words, 4 * at, 4);
             due = new Oracle(words, sectors);
@@ -59,7 +66,7 @@ final class RandomCallsTest {
 
     private void resize(int n) {
         boolean taken = n >= 1 && n <= 24;
-        CHECK.due(what + ": resize(" + n + ")", x.resize(n), taken);
+        CHECK.due(what + ": resize(" + n + ")", asked().resize(n), taken);
         if (taken) {
             sectors = n;
             due = new Oracle(words, sectors);
@@ -79,9 +86,9 @@ final class RandomCallsTest {
         } else if (kind < 4) {
             resize(chance.nextBoolean() ? sectors : number(26));
         } else if (kind < 12) {
-            CHECK.due(what + ": open()", x.open(), due.open());
+            CHECK.due(what + ": open()", asked().open(), due.open());
         } else if (kind < 26) {
-            CHECK.due(what + ": load()", x.load(), due.load());
+            CHECK.due(what + ": load()", asked().load(), due.load());
         } else if (kind < 60) {
             askFile(number(12), number(70));
         } else {
@@ -110,21 +117,21 @@ final class RandomCallsTest {
     }
 
     private void askFile(int k, int i) {
-        CHECK.due(what + ": entries()", x.entries(), due.entries());
-        CHECK.due(what + ": entry(" + k + ", " + i % 7 + ")", x.entry(k, i % 7), due.entry(k, i % 7));
-        CHECK.due(what + ": place(" + k + ", " + i + ")", x.place(k, i), due.place(k, i));
-        CHECK.due(what + ": word(" + k + ", " + i + ")", x.word(k, i), due.word(k, i));
+        CHECK.due(what + ": entries()", asked().entries(), due.entries());
+        CHECK.due(what + ": entry(" + k + ", " + i % 7 + ")", asked().entry(k, i % 7), due.entry(k, i % 7));
+        CHECK.due(what + ": place(" + k + ", " + i + ")", asked().place(k, i), due.place(k, i));
+        CHECK.due(what + ": word(" + k + ", " + i + ")", asked().word(k, i), due.word(k, i));
         int name = (int) due.entry(i % 12, 0) ^ (chance.nextBoolean() ? 32 : 0);
-        CHECK.due(what + ": find(" + k + ", " + name + ")", x.find(k, name), due.find(k, name));
+        CHECK.due(what + ": find(" + k + ", " + name + ")", asked().find(k, name), due.find(k, name));
     }
 
     private void askText(int p, int which) {
-        CHECK.due(what + ": length(" + which + ")", x.length(which), due.length(which));
-        CHECK.due(what + ": unit(" + p + ")", x.unit(p), due.unit(p));
-        CHECK.due(what + ": bands(" + p + ")", x.bands(p), due.bands(p));
-        CHECK.due(what + ": look(" + p + ", " + which + ")", x.look(p, which), due.look(p, which));
-        CHECK.due(what + ": style(" + p + ", " + which + ")", x.style(p, which), due.style(p, which));
-        CHECK.due(what + ": depth(" + p + ")", x.depth(p), due.depth(p));
-        CHECK.due(what + ": shown(" + p + ")", x.shown(p), due.shown(p));
+        CHECK.due(what + ": length(" + which + ")", asked().length(which), due.length(which));
+        CHECK.due(what + ": unit(" + p + ")", asked().unit(p), due.unit(p));
+        CHECK.due(what + ": bands(" + p + ")", asked().bands(p), due.bands(p));
+        CHECK.due(what + ": look(" + p + ", " + which + ")", asked().look(p, which), due.look(p, which));
+        CHECK.due(what + ": style(" + p + ", " + which + ")", asked().style(p, which), due.style(p, which));
+        CHECK.due(what + ": depth(" + p + ")", asked().depth(p), due.depth(p));
+        CHECK.due(what + ": shown(" + p + ")", asked().shown(p), due.shown(p));
     }
 }

@@ -92,6 +92,22 @@ final class SampleFile {
         notes(GROUPS + 9, 1, modifier(1, 0, 129));
     }
 
+    /** A directory of a root alone in sector s, told by a table of so many sectors; N is 24. */
+    static SampleFile rootAlone(int tables, int s) {
+        SampleFile file = new SampleFile().header(1, tables).header(5, s).header(6, -2).link(s);
+        return file.write(8 * s, 0, form(5, false, 0, 0, 0), -2, 0);
+    }
+
+    /** Entries 4 and 5 are not reached, so that nothing is in small sectors. */
+    SampleFile withoutFolder() {
+        return formOf(3, form(1, false, 0, 0, 0));
+    }
+
+    SampleFile copySector(int from, int to) {
+        System.arraycopy(words, 8 * from, words, 8 * to, 8);
+        return this;
+    }
+
     static int form(int kind, boolean black, int left, int right, int child) {
         return kind | (black ? 16 : 0) | left << 8 | right << 16 | child << 24;
     }
