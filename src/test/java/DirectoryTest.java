@@ -26,18 +26,6 @@ final class DirectoryTest {
         CHECK.finish();
     }
 
-    /** The ways in which a file is not open. */
-    private static SectorDocument[] notOpen() {
-        SectorDocument put = new SampleFile().loaded();
-        put.put(47, 0, 0, 0, 0);
-        SectorDocument resized = new SampleFile().loaded();
-        resized.resize(24);
-        SectorDocument refused = new SampleFile().loaded();
-        refused.put(0, 0, 3, 1, 2);
-        refused.open();
-        return new SectorDocument[] {new SectorDocument(), new SampleFile().closed(), put, resized, refused};
-    }
-
     private static void entriesCountsTheReached() {
         CHECK.sentence("Promise 5", "How many entries are reached");
         CHECK.due("entries", new SampleFile().opened().entries(), 6);
@@ -53,7 +41,7 @@ final class DirectoryTest {
 
     private static void entriesOfAFileThatIsNotOpen() {
         CHECK.sentence("Promise 5", "NONE when the file is not open");
-        for (SectorDocument x : notOpen()) {
+        for (SectorDocument x : States.notOpen()) {
             CHECK.due("entries", x.entries(), NONE);
         }
     }
@@ -103,7 +91,7 @@ final class DirectoryTest {
 
     private static void entryOfAFileThatIsNotOpen() {
         CHECK.sentence("Promise 6", "NO_WORD when the file is not open");
-        for (SectorDocument x : notOpen()) {
+        for (SectorDocument x : States.notOpen()) {
             for (int what = 0; what < 5; what++) {
                 CHECK.due("entry(0, " + what + ")", x.entry(0, what), NO_WORD);
                 CHECK.due("entry(1, " + what + ")", x.entry(1, what), NO_WORD);
@@ -203,7 +191,7 @@ final class DirectoryTest {
 
     private static void findInAFileThatIsNotOpen() {
         CHECK.sentence("Promise 7", "or the file is not open");
-        for (SectorDocument x : notOpen()) {
+        for (SectorDocument x : States.notOpen()) {
             CHECK.due("find(0, b)", x.find(0, 'b'), NONE);
             CHECK.due("find(0, DOC)", x.find(0, SampleFile.DOC), NONE);
         }
@@ -229,7 +217,7 @@ final class DirectoryTest {
 
     private static void placeInAFileThatIsNotOpen() {
         CHECK.sentence("Promise 8", "NONE when the file is not open");
-        for (SectorDocument x : notOpen()) {
+        for (SectorDocument x : States.notOpen()) {
             CHECK.due("place(2, 0)", x.place(2, 0), NONE);
             CHECK.due("place(4, 0)", x.place(4, 0), NONE);
         }
@@ -287,7 +275,7 @@ final class DirectoryTest {
 
     private static void wordWherePlaceIsNone() {
         CHECK.sentence("Promise 9", "NO_WORD where place would answer NONE");
-        for (SectorDocument x : notOpen()) {
+        for (SectorDocument x : States.notOpen()) {
             CHECK.due("word(2, 0) of a file that is not open", x.word(2, 0), NO_WORD);
         }
         SectorDocument x = new SampleFile().sizeOf(3, 2).opened();

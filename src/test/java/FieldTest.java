@@ -48,7 +48,7 @@ final class FieldTest {
 
     private static void depthWhenNotLoaded() {
         CHECK.sentence("Promise 16", "NONE when no document is loaded");
-        for (SectorDocument x : TextTest.notLoaded()) {
+        for (SectorDocument x : States.notLoaded()) {
             for (int p : new int[] {-1, 0, 9, 10}) {
                 CHECK.due("depth(" + p + ")", x.depth(p), SectorDocument.NONE);
             }
@@ -93,7 +93,7 @@ final class FieldTest {
     private static void shownWhenNotLoaded() {
         CHECK.sentence("Promise 17", "false also when no document is loaded");
         CHECK.due("shown when loaded", new SampleFile().loaded().shown(0), true);
-        for (SectorDocument x : TextTest.notLoaded()) {
+        for (SectorDocument x : States.notLoaded()) {
             for (int p : new int[] {-1, 0, 9, 10}) {
                 CHECK.due("shown(" + p + ")", x.shown(p), false);
             }
@@ -159,8 +159,10 @@ final class FieldTest {
         due("an empty part between", z, "0100", "nnyn");
         SectorDocument w = text(0, 0, 4, 19, 'a', 20, 'b').loaded();
         due("two empty parts before", w, "0111", "nnny");
-        due("with other bits in word 1 of the body", text(2, 0, 2, 19, 'a', 'b', 20).body(1, 4).loaded(), "0100", "nnyn");
-        due("with all other bits", text(0, 0, 4, 19, 'a', 20, 'b').body(1, -4).loaded(), "0111", "nnny");
+        SectorDocument u = text(2, 0, 2, 19, 'a', 'b', 20).body(1, 4).loaded();
+        due("with another bit in word 1 of the body", u, "0100", "nnyn");
+        SectorDocument t = text(0, 0, 4, 19, 'a', 20, 'b').body(1, -4).loaded();
+        due("with all other bits in it", t, "0111", "nnny");
         for (int first = 0; first <= 6; first++) {
             SectorDocument v = text(first, 6 - first, 0, 19, 19, 19, 19, 19, 19).loaded();
             for (int p = 0; p < 6; p++) {

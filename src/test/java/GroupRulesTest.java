@@ -93,7 +93,8 @@ final class GroupRulesTest {
     }
 
     private static void classesThreeToSix() {
-        CHECK.sentence("Terms: GROUP", "A group is READABLE when its n words are whole modifiers and no class is 3 .. 6");
+        CHECK.sentence("Terms: GROUP",
+            "A group is READABLE when its n words are whole modifiers and no class is 3 .. 6");
         for (int kind = 3; kind <= 6; kind++) {
             due("class " + kind, runGroup(head(kind)), 20);
             due("class " + kind + " and words", runGroup(head(kind), 0, 0, 0, 0, 0, 0), 20);
@@ -140,7 +141,8 @@ final class GroupRulesTest {
     }
 
     private static void classSeven() {
-        CHECK.sentence("Terms: GROUP", "with class 7 the next word, which is a number m not less than 0, and m more behind it");
+        CHECK.sentence("Terms: GROUP",
+            "with class 7 the next word, which is a number m not less than 0, and m more behind it");
         due("without m", runGroup(head(7)), 20);
         due("without m, a 0 behind the group", runGroup(head(7)).notes(FREE + 2, 0), 20);
         due("without m, at the end of the notes", lastGroup(head(7)), 20);
@@ -202,7 +204,8 @@ final class GroupRulesTest {
     }
 
     private static void operands() {
-        CHECK.sentence("Terms: GROUP", "its NUMBER the bits 0 .. 4, its CLASS the bits 5 .. 7, its OPERAND w >> 8 (with sign)");
+        CHECK.sentence("Terms: GROUP",
+            "its NUMBER the bits 0 .. 4, its CLASS the bits 5 .. 7, its OPERAND w >> 8 (with sign)");
         CHECK.due("an operand 50", lookOf(2 | 50 << 8)[1], 50);
         CHECK.due("an operand -5", lookOf(3 | -5 << 8)[1], 25);
         CHECK.due("the least operand", lookOf(3 | Integer.MIN_VALUE)[1], 1);

@@ -9,13 +9,6 @@ final class LoadTest {
     private static final int S = SampleFile.STYLES;
     private static final Checker CHECK = new Checker();
 
-    private interface Change {
-        SampleFile to(SampleFile file);
-    }
-
-    /** A change of the sample that breaks this rule and none before it. */
-    private record Fault(int rule, String name, Change change) { }
-
     private static final List<Fault> FAULTS = new ArrayList<>();
 
     public static void main(String[] args) {
@@ -30,7 +23,7 @@ final class LoadTest {
         CHECK.finish();
     }
 
-    private static void fault(int rule, String name, Change change) {
+    private static void fault(int rule, String name, Fault.Change change) {
         FAULTS.add(new Fault(rule, name, change));
     }
 
@@ -85,7 +78,7 @@ final class LoadTest {
         CHECK.sentence("Promise 10", "The answer is the number of the first of these rules that does not hold");
         CHECK.due("load of a closed file", new SampleFile().closed().load(), 11);
         for (Fault fault : FAULTS) {
-            CHECK.due(fault.name(), fault.change().to(new SampleFile()).loadAnswer(), fault.rule());
+            CHECK.due(fault.name(), fault.inSample().loadAnswer(), fault.rule());
         }
     }
 
@@ -95,16 +88,16 @@ final class LoadTest {
         for (Fault first : FAULTS) {
             for (Fault second : FAULTS) {
                 if (first.rule() < second.rule()) {
-                    SampleFile file = first.change().to(second.change().to(new SampleFile()));
+                    SampleFile file = first.in(second.inSample());
                     CHECK.due(first.name() + ", and " + second.name(), file.loadAnswer(), first.rule());
                 }
             }
-            SectorDocument closed = first.change().to(new SampleFile()).closed();
+            SectorDocument closed = first.inSample().closed();
             CHECK.due(first.name() + " in a closed file", closed.load(), 11);
         }
         SampleFile all = new SampleFile();
         for (int i = FAULTS.size() - 1; i >= 0; i--) {
-            all = FAULTS.get(i).change().to(all);
+            all = FAULTS.get(i).in(all);
             CHECK.due(FAULTS.get(i).name() + ", and all later ones", all.loadAnswer(), FAULTS.get(i).rule());
         }
     }
@@ -123,7 +116,7 @@ final class LoadTest {
     private static void otherwiseNotLoaded() {
         CHECK.sentence("Promise 10", "otherwise it is not");
         for (Fault fault : FAULTS) {
-            SectorDocument x = fault.change().to(new SampleFile()).opened();
+            SectorDocument x = fault.inSample().opened();
             CHECK.due(fault.name(), x.load(), fault.rule());
             CHECK.dueNotLoaded(fault.name(), x);
             CHECK.due("the same again", x.load(), fault.rule());
@@ -137,7 +130,7 @@ final class LoadTest {
         CHECK.sentence("Promise 10", "(also if one was loaded before)");
         for (Fault fault : FAULTS) {
             SectorDocument x = new SampleFile().loaded();
-            fault.change().to(new SampleFile()).putInto(x);
+            fault.inSample().putInto(x);
             CHECK.due("load when closed", x.load(), 11);
             CHECK.dueClosed("load when closed", x);
             CHECK.due("open", x.open(), 0);

@@ -81,7 +81,7 @@ final class LookTest {
 
     private static void lookWhenNotLoaded() {
         CHECK.sentence("Promise 14", "NO_WORD when no document is loaded");
-        for (SectorDocument x : TextTest.notLoaded()) {
+        for (SectorDocument x : States.notLoaded()) {
             for (int which = -1; which <= 3; which++) {
                 CHECK.due("look(0, " + which + ")", x.look(0, which), NO_WORD);
                 CHECK.due("look(10, " + which + ")", x.look(10, which), NO_WORD);
@@ -124,7 +124,7 @@ final class LookTest {
 
     private static void styleWhenNotLoaded() {
         CHECK.sentence("Promise 15", "NO_WORD when no document is loaded");
-        for (SectorDocument x : TextTest.notLoaded()) {
+        for (SectorDocument x : States.notLoaded()) {
             for (int which = -1; which <= 3; which++) {
                 CHECK.due("style(0, " + which + ")", x.style(0, which), NO_WORD);
                 CHECK.due("style(3, " + which + ")", x.style(3, which), NO_WORD);
@@ -307,7 +307,8 @@ final class LookTest {
         }
         CHECK.sentence("Terms: PARAGRAPHS", "its paragraph's group, its run's group, and the group of the group block");
         SampleFile plain = new SampleFile().body(7, 54, 1).notes(54, -1, -1).notes(P + 4, 0, 0, FREE, -1);
-        plain.notes(FREE, 1, wider(1)).notes(FREE + 2, 1, wider(10)).notes(2, wider(100)).notes(8, SampleFile.NARROW, 0);
+        plain.notes(FREE, 1, wider(1)).notes(FREE + 2, 1, wider(10)).notes(2, wider(100));
+        plain.notes(8, SampleFile.NARROW, 0);
         for (int limit = 1; limit <= 8; limit++) {
             plain.notes(P + 2, limit).notes(R, 2, 0, limit + 1, 10, FREE + 2, -1).notes(6, 9 - limit);
             SectorDocument x = plain.notes(10, 1, 0).loaded();

@@ -26,24 +26,6 @@ final class TextTest {
         CHECK.finish();
     }
 
-    /** The ways in which no document is loaded. */
-    static SectorDocument[] notLoaded() {
-        SectorDocument opened = new SampleFile().loaded();
-        opened.open();
-        SectorDocument put = new SampleFile().loaded();
-        put.put(47, 0, 0, 0, 0);
-        SectorDocument resized = new SampleFile().loaded();
-        resized.resize(24);
-        SectorDocument refused = new SampleFile().body(1, 2).opened();
-        refused.load();
-        SectorDocument late = new SampleFile().notes(2, SampleFile.modifier(0, 3, 0)).opened();
-        late.load();
-        return new SectorDocument[] {
-            new SectorDocument(), new SampleFile().closed(), new SampleFile().opened(), opened, put, resized,
-            refused, late
-        };
-    }
-
     private static void lengthTellsThePartsAndTheSum() {
         CHECK.sentence("Promise 11", "The length of part 0, 1 or 2; L for 3");
         int[][] parts = {{5, 3, 2}, {10, 0, 0}, {0, 10, 0}, {0, 0, 10}, {1, 8, 1}, {0, 1, 9}};
@@ -71,7 +53,7 @@ final class TextTest {
 
     private static void lengthWhenNotLoaded() {
         CHECK.sentence("Promise 11", "or when no document is loaded");
-        for (SectorDocument x : notLoaded()) {
+        for (SectorDocument x : States.notLoaded()) {
             for (int part = -1; part <= 4; part++) {
                 CHECK.due("length(" + part + ")", x.length(part), NONE);
             }
@@ -192,7 +174,7 @@ final class TextTest {
 
     private static void unitWhenNotLoaded() {
         CHECK.sentence("Promise 12", "NONE when no document is loaded");
-        for (SectorDocument x : notLoaded()) {
+        for (SectorDocument x : States.notLoaded()) {
             for (int p : new int[] {-1, 0, 9, 10}) {
                 CHECK.due("unit(" + p + ")", x.unit(p), NONE);
             }
@@ -264,7 +246,8 @@ final class TextTest {
     }
 
     private static void bandsUpToTwelve() {
-        CHECK.sentence("Promise 13", "the number of its piece, times 16 that of its paragraph, times 256 that of its run");
+        CHECK.sentence("Promise 13",
+            "the number of its piece, times 16 that of its paragraph, times 256 that of its run");
         SectorDocument runs = twelve(10).loaded();
         SectorDocument paragraphs = twelve(9).loaded();
         SectorDocument pieces = twelve(5).loaded();
@@ -294,7 +277,7 @@ final class TextTest {
 
     private static void bandsWhenNotLoaded() {
         CHECK.sentence("Promise 13", "NONE when no document is loaded");
-        for (SectorDocument x : notLoaded()) {
+        for (SectorDocument x : States.notLoaded()) {
             for (int p : new int[] {-1, 0, 9, 10}) {
                 CHECK.due("bands(" + p + ")", x.bands(p), NONE);
             }

@@ -243,7 +243,8 @@ final class TreeRulesTest {
     }
 
     private static void leftIsBeforeAndRightIsAfter() {
-        CHECK.sentence("Rule 6", "what LEFT of an entry x leads to (it, and on by LEFT and RIGHT) comes before x by name");
+        CHECK.sentence("Rule 6",
+            "what LEFT of an entry x leads to (it, and on by LEFT and RIGHT) comes before x by name");
         due("seven in order", TreeFile.ofSeven(), 0);
         due("1 behind 2", TreeFile.ofSeven().name(1, 'b').name(2, 'A'), 6);
         due("1 behind all", TreeFile.ofSeven().name(1, 'Z'), 6);
@@ -326,8 +327,8 @@ final class TreeRulesTest {
     }
 
     private static void asManyBlackOnAllWays() {
-        CHECK.sentence("Rule 7",
-            "on all ways from the first entry on by LEFT and RIGHT to where there is none, there are as many black entries");
+        CHECK.sentence("Rule 7", "on all ways from the first entry on by LEFT and RIGHT to where there is none, "
+            + "there are as many black entries");
         due("black at left alone", new TreeFile(2).stream(2, 'b', true, 1, 0).stream(1, 'a', true, 0, 0), 7);
         due("black at right alone", new TreeFile(2).stream(2, 'b', true, 0, 3).stream(3, 'c', true, 0, 0), 7);
         due("red at left alone", new TreeFile(2).stream(2, 'b', true, 1, 0).stream(1, 'a', false, 0, 0), 0);
