@@ -112,6 +112,14 @@ final class DirectoryTest {
         CHECK.due("entry 11 of 12", y.entry(11, 0), 'a');
         CHECK.due("entry 12 of 12", y.entry(12, 0), NO_WORD);
         CHECK.due("entry 10, not reached", y.entry(10, 0), NO_WORD);
+        new SampleFile().putInto(y);
+        CHECK.due("open with fewer entries", y.open(), 0);
+        CHECK.due("entry 11 of 6, which was one before", y.entry(11, 0), NO_WORD);
+        SectorDocument z = new SampleFile().opened();
+        new SampleFile().withoutFolder().putInto(z);
+        CHECK.due("open without the folder's contents", z.open(), 0);
+        CHECK.due("entry 5, which was reached before", z.entry(5, 0), NO_WORD);
+        CHECK.due("find what was reached before", z.find(3, SampleFile.name("abc")), NONE);
     }
 
     private static void entryOfNoWhat() {

@@ -103,9 +103,11 @@ final class StreamRulesTest {
         CHECK.due("its first word", mostSmallSectors(47).opened().place(1, 0), 8 * 16 + 6);
         due("small sector 48 of 48", mostSmallSectors(48), 9);
         CHECK.sentence("Terms: SMALL SECTORS", "that has an entry in the small table");
-        due("small sector 8 of 8 entries", longBase().startOf(5, 8).write(8 * 10, 0xA5EC), 9);
-        due("small sector 8 of 8 entries, -2 behind them", longBase().startOf(5, 8).link(9, 10)
-            .link(9).write(8 * 10, -2), 9);
+        due("small sector 8 of 8 entries", longBase().startOf(5, 8), 9);
+        due("small sector 8 of 8 entries, -2 in the sector behind", longBase().startOf(5, 8).write(8 * 10, -2), 9);
+        SectorDocument x = two.startOf(5, 8).opened();
+        longBase().startOf(5, 8).putInto(x);
+        CHECK.due("small sector 8 of 8 entries, after 16", x.open(), 9);
         due("on to small sector 8", longBase().startOf(5, 7).sizeOf(5, 4).smallEntry(7, 8), 9);
         due("small sector 0 without a table", inSmallSector(0, 16).header(6, -2), 9);
         due("no small sector without a table", inSmallSector(0, 16).header(6, -2).startOf(2, -2).sizeOf(2, 0), 0);

@@ -73,6 +73,11 @@ final class StyleRulesTest {
         return file.notes(12, 1, 0, 10, 0, -1, 0, 1, 0, 10, -1);
     }
 
+    /** Two styles, and behind them two words that could be a third one's. */
+    private static SampleFile twoStyles() {
+        return sample().body(8, 2).notes(S, -1, -1, 0, -1, -1, -1).notes(PARAGRAPH_STYLES, 0, 1);
+    }
+
     private static void parents() {
         CHECK.sentence("Rule 17", "every parent is -1 or a style");
         for (int s = 0; s < 3; s++) {
@@ -86,6 +91,11 @@ final class StyleRulesTest {
         due("the last of ten as parent", styles(10).notes(S, 9).notes(S + 18, -1), 0);
         due("one behind ten as parent", styles(10).notes(S, 10), 17);
         due("one behind one as parent", styles(1).notes(S, 1), 17);
+        due("words like a style behind two", twoStyles(), 0);
+        due("words like a style behind two as parent of the first", twoStyles().notes(S, 2), 17);
+        due("words like a style behind two as parent of the last", twoStyles().notes(S + 2, 2), 17);
+        due("words like a style before the first as parent", sample().body(7, S + 2, 2)
+            .notes(S, -1, -1, -2, -1, 0, -1).notes(PARAGRAPH_STYLES, 0, 1), 17);
         due("a style that nothing uses", sample().notes(PARAGRAPH_STYLES, 0, 0).notes(S + 4, 3), 17);
     }
 

@@ -131,6 +131,11 @@ final class TableRulesTest {
                 due("F is " + f + ", behind the last entry", SampleFile.rootAlone(f, 8 * f), 3);
             }
         }
+        SectorDocument x = SampleFile.rootAlone(3, 20).opened();
+        SampleFile.rootAlone(2, 20).putInto(x);
+        CHECK.due("entry 20 of 16, after 24", x.open(), 3);
+        SampleFile.rootAlone(2, 15).putInto(x);
+        CHECK.due("entry 15 of 16, after 24", x.open(), 0);
         CHECK.sentence("Terms: TABLE",
             "entry e is word e mod 8 of the table sector that header word 2 + e / 8 names");
         SampleFile turned = sample().copySector(1, 0);
