@@ -2,6 +2,8 @@ import java.io.IOException;
 import java.io.UncheckedIOException;
 import java.nio.file.Files;
 import java.nio.file.Path;
+import java.util.ArrayList;
+import java.util.List;
 
 /** The words of ../shared/DOC.md, so that a test which quotes them is known to quote what stands there. */
 final class DocumentText {
@@ -15,6 +17,18 @@ final class DocumentText {
         return TEXT.isEmpty() || plain(passage(where)).contains(plain(words));
     }
 
+    /** What the terms and the promises say, without the promises' heads; empty as above. */
+    static List<String> passages() {
+        List<String> passages = new ArrayList<>();
+        for (String section : TEXT.split("\n## ")) {
+            if (section.startsWith("Terms") || section.startsWith("Promise")) {
+                String said = section.substring(section.indexOf('\n') + 1).strip();
+                passages.add(plain(section.startsWith("Terms") ? said : said.replaceFirst("^`[^`]*`: ", "")));
+            }
+        }
+        return passages;
+    }
+
     private static String read() {
         if (!Files.isReadable(PATH)) {
             return "";
@@ -26,7 +40,7 @@ final class DocumentText {
         }
     }
 
-    private static String plain(String text) {
+    static String plain(String text) {
         return text.replaceAll("\\s+", " ");
     }
 
